@@ -340,9 +340,10 @@ public final class StoreSlopes {
      * what is bought never rises with the price: halving finds the least rise.
      */
     private int dearness(int h) {
+        if (planned[h] <= plannedBefore(h)) return 0;
         trial.load(now);
         trial.solve(HOURS - 1, h + 1);
-        int least = 0;
+        int least = 1;
         int most = MOST_DEAR + 1;
         for (int step = 0; step < MOST_DEAR && least < most; step++) {
             int middle = (least + most) / 2;
